@@ -7,6 +7,7 @@ public final class SixtyOneCabs {
   private static final int ROOM = -6;
   private static final int NONE = -9;
   private static final long LONG_REFUSAL = 4000000000000000000L;
+  private static final int WITHOUT_SIGN = 0x7fffffff;
 
   private static final int COLOURS = 2;
   private static final int MOST_CABS = 16;
@@ -320,11 +321,12 @@ public final class SixtyOneCabs {
       return refuse(ROOM);
     }
     tallySheet(colour);
-    int n = MOST_CABS;
-    while (n > tally.greatest && tally.many > 0 && !isAsLikely(n, a, b)) {
-      n--;
+    for (int n = MOST_CABS; n > tally.greatest; n--) {
+      if (tally.many == 0 || isAsLikely(n, a, b)) {
+        return n;
+      }
     }
-    return n;
+    return tally.greatest;
   }
 
   public int look(int n, int v) {
@@ -559,7 +561,7 @@ public final class SixtyOneCabs {
     int seed = z;
     int together = 0;
     int above = 0;
-    for (int evening = 0; evening < n; evening++) {
+    for (int round = 0; round < n; round++) {
       seed = seeByLot(seed);
       together += tally.greatest;
       if (Guess.above(PLAIN, 0, tally) > MOST_CABS * Guess.below(PLAIN, tally.many)) {
@@ -701,7 +703,9 @@ public final class SixtyOneCabs {
 
   /** How far from n a looker's guess and some more is, by the guess's below. */
   private long farFrom(int looker, int some, int n) {
-    return Math.abs(guessAbove(looker) + (some - n) * guessBelow(looker));
+    int kind = now.kinds[looker];
+    long below = Guess.below(kind, tally.many);
+    return Math.abs(Guess.above(kind, now.figures[looker], tally) + (some - n) * below);
   }
 
   private int nearestLooker(int colour, int n) {
@@ -866,7 +870,7 @@ public final class SixtyOneCabs {
     tally.start();
     for (int draw = 0; draw < DRAWS_BOUND && tally.many < SEEN_BY_LOT; draw++) {
       z = z * 1664525 + 1013904223;
-      int v = 1 + (z & Integer.MAX_VALUE) / 256 % MOST_CABS;
+      int v = 1 + (z & WITHOUT_SIGN) / 256 % MOST_CABS;
       if ((seen >> v & 1) == 0) {
         seen |= 1 << v;
         tally.take(v);
