@@ -742,7 +742,7 @@ public final class SixtyOneCabs {
     long sum = 0;
     for (int way = 0; way < 1 << n; way++) {
       if (Integer.bitCount(way) == k) {
-        tally.takeBits(way << 1);
+        tally.takeWay(way);
         long far = farFrom(looker, 0, n);
         sum += far * far;
       }
@@ -755,7 +755,7 @@ public final class SixtyOneCabs {
     long sum = 0;
     for (int way = 0; way < 1 << n; way++) {
       if (Integer.bitCount(way) == k) {
-        tally.takeBits(way << 1);
+        tally.takeWay(way);
         sum += guessAbove(looker);
       }
     }
@@ -900,10 +900,11 @@ public final class SixtyOneCabs {
       many++;
     }
 
-    private void takeBits(int bits) {
+    /** The numbers of a way to see up to MOST_OFF_CABS cabs: bit 0 stands for number 1. */
+    private void takeWay(int way) {
       start();
-      for (int v = 1; v <= MOST_CABS; v++) {
-        if ((bits >> v & 1) == 1) {
+      for (int v = 1; v <= MOST_OFF_CABS; v++) {
+        if ((way >> v - 1 & 1) == 1) {
           take(v);
         }
       }

@@ -67,10 +67,18 @@ public final class BeliefsTest {
     Check.fraction("2 are no more than seen", x.after(0, 2, 0), x.after(0, 2, 1), 0, 1);
     Check.due("which", x.which(0), 4);
     Check.fraction("next of 1 and 4", x.next(0, 0), x.next(0, 1), 1, 2);
+    x.sees(0, 16);
+    x.unsees(0);
+    Check.due("what is unseen does not matter", x.which(0), 4);
     Check.fraction("the other colour", x.after(1, 2, 0), x.after(1, 2, 1), 3, 5);
   }
 
   private static void alikeLikely() {
+    SixtyOneCabs fresh = new SixtyOneCabs();
+    Check.due("all alike: 1", fresh.which(0), 1);
+    Check.fraction("about of new", fresh.about(0, 0), fresh.about(0, 1), 17, 2);
+    fresh.believes(16, 9);
+    Check.due("16 is likeliest", fresh.which(0), 16);
     SixtyOneCabs x = twoOrFour();
     x.believes(2, 1);
     x.sees(0, 1);
@@ -125,6 +133,10 @@ public final class BeliefsTest {
     noFraction("more", x.more(0, 0), x.more(0, 1));
     x = new SixtyOneCabs();
     Check.fraction("more of new", x.more(0, 0), x.more(0, 1), 15, 32);
+    Check.fraction("alike of new", x.more(1, 0), x.more(1, 1), 1, 16);
+    x.believes(1, 0);
+    x.believes(16, 9);
+    Check.fraction("alike", x.more(1, 0), x.more(1, 1), 95, 529);
     Check.refusedLong("more(2, 0)", x, 1, -2, x.more(2, 0));
     Check.refusedLong("more(-1, 0)", x, 2, -2, x.more(-1, 0));
     Check.refusedLong("more(0, 2)", x, 3, -2, x.more(0, 2));

@@ -82,6 +82,8 @@ public final class EveningTest {
     fault("l0", -1001);
     fault("lpp", -1002);
     fault("s001;x", -1005);
+    fault("w0;".repeat(31) + "s00", -1096);
+    fault("w0;".repeat(31) + "b0x", -1095);
   }
 
   private static boolean fits(String signs, int c) {

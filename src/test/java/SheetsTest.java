@@ -140,6 +140,9 @@ public final class SheetsTest {
     Check.due("missing of 1", x.missing(1), 0);
     x.sees(1, 16);
     Check.due("missing 2 .. 15", x.missing(1), 65532);
+    x.unsees(1);
+    Check.due("missing of 1 again", x.missing(1), 0);
+    Check.due("of a full sheet", Check.behind("s001;s002;s003;s004;s005;s007;").missing(0), 64);
     Check.refused("missing(2)", x, 1, -1, x.missing(2));
     Check.refused("missing(-2)", x, 2, -1, x.missing(-2));
   }
