@@ -32,6 +32,8 @@ public final class EdgesOfGuessingTest {
     judged();
     lots();
     image();
+    turned();
+    theOtherColour();
     counts();
     Check.end("EdgesOfGuessingTest");
   }
@@ -94,6 +96,7 @@ public final class EdgesOfGuessingTest {
         "fair 2 4 = 1", "fair 3 1 = 1", "fair 3 4 = 1", "fair 3 5 = no -6", "fair 3 0 = no -4");
     of("BEST: -9 no LOOKERS", "best 1 1 = -9", "best 10 4 = -9", "tell lf9;", "best 10 4 = 0");
     of("BEST: of several the least", "tell lf9;lm0;lf0;lm3;", "best 10 4 = 1", "best 1 1 = 1");
+    of("BEST: fractions of unlike belows", "tell lp0;lm0;le0;", "best 10 4 = 0", "best 10 1 = 1", "turn 0 5 0 = 0", "best 10 4 = 2", "turn 2 2 0 = 30", "best 10 4 = 1");
     of("BEST: the last of 6", "tell lf9;lf8;lf7;lf6;lf5;lf4;", "best 1 1 = 5", "best 10 4 = 5");
   }
 
@@ -286,6 +289,31 @@ public final class EdgesOfGuessingTest {
     of("but letters", "write lp", "image = 0", "write 0;", "on = 0", "count 7 = 4", "evening = 1", "count 0 = 1");
     of("but REFUSALS", "sees 2 1 = no -1", "image = 0", "sees 2 1 = no -1", "sees 0 0 = no -4", "on = 0");
     of("how many are SEEN in all", "tell s005;s104;s103;", "image = 3", "tell w0;w1;", "on = 3", "unsees 1 = 3", "image = 2", "on = 2");
+  }
+
+  private static void turned() {
+    of("KIND, FIGURE become others: his alone", "tell lp1;lp2;lp3;", "turn 2 4 5 = 3", "looker 2 0 = 4", "looker 2 1 = 5", "looker 0 1 = 1",
+        "looker 1 0 = 0", "looker 1 1 = 2", "turn 1 5 9 = 2", "turn 1 0 0 = 59");
+    of("KIND, FIGURE become others: GUESSES go by them", "tell lm0;lf0;s008;s003;", "turn 1 4 9 = 40", "guess 1 0 = 17/1", "nearest 0 8 = 0",
+        "nearest 0 16 = 1", "ordered 0 0 = 0", "turn 0 5 0 = 10", "guess 0 0 = 21/2", "nearest 0 10 = 0", "turn 1 1 9 = 49", "ordered 0 0 = 1");
+    of("KIND, FIGURE become others: OFF, MEAN, FAIR go by them", "tell lm0;", "fair 0 2 = 0", "turn 0 0 0 = 10", "fair 0 2 = 1", "off 0 10 4 = 11/4",
+        "mean 0 10 4 = 10/1", "turn 0 4 9 = 0", "fair 0 2 = 0", "mean 0 10 4 = 89/5", "off 0 10 4 = 313/5");
+    of("KIND, FIGURE become others: BEST goes by them", "tell lp0;lm0;", "best 10 4 = 0", "turn 0 1 0 = 0", "turn 1 0 0 = 10", "best 10 4 = 1");
+    of("ON: LOOKERS that came behind THE IMAGE are none", "tell lm0;s005;", "image = 1", "tell lp0;lf9;", "best 10 4 = 1", "nearest 0 9 = 1", "on = 1",
+        "best 10 4 = 0", "nearest 0 9 = 0", "ordered 0 0 = 0", "ordered 0 1 = -9", "paid 0 9 = 0", "guess 1 0 0 = no -1", "two 0 1 0 5 = no -1",
+        "turn 0 4 9 = 10", "ordered 0 0 = 0", "ordered 0 1 = -9");
+    of("ON: one who comes then has no BETS", "image = 0", "tell lp0;p09;", "on = 0", "tell lm4;", "looker 0 0 = 1", "looker 0 1 = 4", "looker 0 2 = 0");
+  }
+
+  private static void theOtherColour() {
+    of("a SHEET of COLOUR 1: NEAREST, ORDERED, PAID", "tell lm0;lp0;s016;s108;s103;", "nearest 1 11 = 1", "nearest 0 16 = 0", "ordered 1 0 = 0", "paid 1 11 = 1",
+        "looker 1 2 = 1", "guess 1 1 = 11/1");
+    of("a SHEET of COLOUR 1: TWO", "tell lf3;lp0;s016;s102;s109;", "two 0 1 1 13 = 10", "two 1 0 1 13 = 1", "two 0 1 1 14 = -9", "two 0 1 0 13 = 0");
+    of("a SHEET of COLOUR 1, LOOKER 1: WHAT ONE IS", "tell lp0;lf4;s016;s107;s103;", "row 11 = 1", "whatIs 1 1 0 = 16", "whatIs 1 1 1 = 16",
+        "whatIs 0 1 0 = 0", "whatIs 0 1 1 = 0", "whatIs 1 0 0 = 0", "whatIs 1 0 1 = 0", "turn 1 0 4 = 44", "whatIs 1 1 1 = 0", "whatIs 1 1 0 = 16",
+        "clear = 1", "row 13 = 1", "whatIs 1 1 1 = 1023");
+    of("a SHEET of COLOUR 1: SURE, WHICH, NEXT, GAP, MISSING", "tell s016;s105;", "sure 1 1 2 = 10", "which 1 = 5", "gap 1 0 = 4", "gap 1 1 = 5", "missing 1 = 30",
+        "next 1 = 394519/935059", "about 1 = 8648640/935059", "after 1 16 = 45045/935059");
   }
 
   private static void counts() {

@@ -27,6 +27,14 @@ public final class ModelTest {
     "image", "on", "count 0 17"
   };
 
+  /** Evenings told ahead of calls with all the ends: nothing, all full, all beliefs 0, some of all. */
+  private static final String[] STATES = {
+    "",
+    "s001;s002;s003;s004;s005;s006; s116;s115;s114;s113;s112;s111; lp0;lm0;lt0;le0;lf9;lh0;p59;b169;b010;",
+    "s016;s005;lf3;lp0; b010;b020;b030;b040;b050;b060;b070;b080;b090;b100;b110;b120;b130;b140;b150;b160;",
+    "s008;s003;s012;s116;s103;lf2;lp0;le0;lt0;p19;b020;b163;b088;"
+  };
+
   private static final Map<String, Method> PROGRAM = methodsOf(SixtyOneCabs.class);
   private static final Map<String, Method> MODEL = methodsOf(Model.class);
 
@@ -44,7 +52,38 @@ public final class ModelTest {
     for (int run = 0; run < RUNS; run++) {
       new Run(run).play();
     }
+    for (String state : STATES) {
+      for (String call : CALLS_AND_RANGES) {
+        allEnds(state, call.split(" "));
+      }
+    }
     Check.end("ModelTest");
+  }
+
+  /** A call with its least and greatest usual values, the next beyond them and the ends of an int, in every mixture. */
+  private static void allEnds(String state, String[] call) throws Exception {
+    int numbers = call.length / 2;
+    int mixtures = 1;
+    for (int i = 0; i < numbers; i++) {
+      mixtures *= 7;
+    }
+    Run run = null;
+    for (int mixture = 0; mixture < mixtures; mixture++) {
+      if (run == null || run.calls > CALLS - 10) {
+        run = new Run(RUNS + mixture);
+        run.tell(state);
+      }
+      Object[] values = new Object[numbers];
+      for (int i = 0, rest = mixture; i < numbers; i++, rest /= 7) {
+        int least = Integer.parseInt(call[2 * i + 1]);
+        int greatest = Integer.parseInt(call[2 * i + 2]);
+        int middle = (least + greatest) / 2;
+        int[] ends = {least, greatest, least - 1, greatest + 1, middle, Integer.MIN_VALUE, Integer.MAX_VALUE};
+        values[i] = ends[rest % 7];
+      }
+      run.call(call[0], values);
+      run.tellSize();
+    }
   }
 
   /** One run of calls on a new object and a new model. */
@@ -75,6 +114,26 @@ public final class ModelTest {
           default:
             anyCall();
         }
+      }
+    }
+
+    /** Evenings with a blank between them, a row, an image and a letter. */
+    void tell(String evenings) throws Exception {
+      for (String evening : evenings.split(" ")) {
+        for (int i = 0; i < evening.length(); i++) {
+          call("letter", (int) evening.charAt(i));
+        }
+        call("evening");
+      }
+      call("row", 5);
+      call("image");
+      call("letter", (int) 'u');
+    }
+
+    /** What changes with a refusal, and what must not. */
+    void tellSize() throws Exception {
+      for (int what : new int[] {1, 11, 12, 13, 14, 16}) {
+        call("count", what);
       }
     }
 
