@@ -222,6 +222,10 @@ public final class ModelTest {
     }
 
     private void call(String name, Object... values) throws Exception {
+      // What an object answers behind its 512th call is free.
+      if (calls >= CALLS) {
+        return;
+      }
       calls++;
       long got = ((Number) PROGRAM.get(name).invoke(program, values)).longValue();
       long want = ((Number) MODEL.get(name).invoke(model, values)).longValue();

@@ -41,6 +41,8 @@ public final class SourceTest {
     nestedClasses();
     methodsAreShort(code);
     methodNames(code);
+    signs(Files.readString(SOURCE));
+    madeInConstructorsAlone(code);
     Check.end("SourceTest");
   }
 
@@ -118,6 +120,24 @@ public final class SourceTest {
       Check.holds("own name: " + declared.group(4), !names.contains(declared.group(4)));
       int parameters = declared.group().split(",").length;
       Check.holds("parameters of " + declared.group(4), parameters <= 7);
+    }
+  }
+
+  private static void signs(String text) {
+    Check.holds("signs 1 to 127 alone", text.chars().allMatch(c -> c >= 1 && c <= 127));
+  }
+
+  /** So the room that a run needs hangs on how many objects it makes, not on its calls. */
+  private static void madeInConstructorsAlone(String code) {
+    String method = "";
+    for (String line : code.split("\n")) {
+      if (line.matches(" {2,4}(public|private) .*\\) \\{")) {
+        method = line.trim();
+      }
+      if (line.matches(".*\\bnew\\b.*")) {
+        Check.holds("made in a constructor: " + line.trim(), method.matches("(public|private) [A-Z]\\w*\\(.*"));
+      }
+      Check.holds("no copies: " + line.trim(), !line.matches(".*\\b(clone|toCharArray|substring|copyOf\\w*)\\(.*"));
     }
   }
 
